@@ -35,7 +35,6 @@ public final class MarbleWorks {
     /** The WORDS by their numbers: 1 to 9 are the PIECES' own, so that a word's number is its PIECE's. */
     private static final String WORDS =
             "left right cross gate trap sieve counter cog seesaw put again mirror let use lane hopper by";
-    private static final int NAME = 0;
     private static final int PUT = 10;
     private static final int AGAIN = 11;
     private static final int MIRROR = 12;
@@ -44,6 +43,13 @@ public final class MarbleWorks {
     private static final int LANE = 15;
     private static final int HOPPER = 16;
     private static final int BY = 17;
+
+    /** TOKENS that are no WORDS of these, with numbers that neither a WORD nor a sign has. */
+    private static final int NAME = 18;
+    private static final int NUMBER = 19;
+    private static final int BAD = 20;
+    private static final int BLANK = 21;
+    private static final int END = 22;
 
     private final Tape tape = new Tape();
     private final Program program = new Program(tape);
@@ -74,7 +80,6 @@ public final class MarbleWorks {
 
     public int draw() {
         int fault = program.read();
-        tape.length = 0;
         if (fault != 0) {
             return fault;
         }
@@ -294,25 +299,32 @@ public final class MarbleWorks {
         return how;
     }
 
-    /** The signs that were fed, and the TOKEN at hand when they are read. */
+    /** The signs that were fed, and the TOKENS into which they are cut when they are read. */
     private static final class Tape {
-        static final int END = 0;
-        static final int WORD = 1;
-        static final int NUMBER = 2;
-        static final int BAD = 3;
         private static final int MOST = 1000;
         private static final int WORD_MOST = 8;
         private static final int NUMBER_MOST = 3;
 
+        private final long[] words = new long[BY + 1];
         private final byte[] signs = new byte[MOST];
+        /** The number of a WORD, NAME, NUMBER, BAD, END, or the sign itself for ( ) - and the semicolon. */
+        private final int[] kinds = new int[MOST + 1];
+        private final int[] starts = new int[MOST + 1];
+        /** A NUMBER's value; a WORD's letters as the bytes of one number: WORDS are equal just if these are. */
+        private final long[] values = new long[MOST + 1];
         private int length;
-        private int at;
-        /** END, WORD, NUMBER, BAD, or the sign itself for ( ) - and the semicolon. */
-        private int kind;
-        private int start;
-        private int value;
-        /** The letters as bytes of one number: WORDS are equal just if these are. */
-        private long letters;
+        private int tokens;
+
+        Tape() {
+            int word = 1;
+            for (int i = 0; i < WORDS.length(); i++) {
+                if (WORDS.charAt(i) == ' ') {
+                    word++;
+                } else if (word <= BY) {
+                    words[word] = words[word] << 8 | WORDS.charAt(i);
+                }
+            }
+        }
 
         void addEight(long eight) {
             for (int shift = 56; shift >= 0; shift -= 8) {
@@ -324,56 +336,66 @@ public final class MarbleWorks {
             }
         }
 
-        void rewind() {
-            at = 0;
-            next();
+        /** Cuts all the signs into TOKENS, the last one the END, and takes them off the TAPE. */
+        void cut() {
+            tokens = 0;
+            int last = BLANK;
+            for (int at = 0; at < length; at++) {
+                int sort = sortOf(signs[at]);
+                if (sort == last && (sort == NAME || sort == NUMBER) && tokens > 0) {
+                    lengthen(tokens - 1, at, sort);
+                } else if (sort != BLANK) {
+                    begin(at, sort);
+                }
+                last = sort;
+            }
+            for (int token = 0; token < tokens; token++) {
+                kinds[token] = kinds[token] == NAME ? wordOf(values[token]) : kinds[token];
+            }
+            kinds[tokens] = END;
+            starts[tokens] = length;
+            length = 0;
         }
 
-        void next() {
-            while (at < length && (signs[at] == ' ' || signs[at] == '\n')) {
-                at++;
+        private static int sortOf(int sign) {
+            if (sign >= 'a' && sign <= 'z') {
+                return NAME;
             }
-            start = at;
-            if (at >= length) {
-                kind = END;
-            } else if (isLetter(signs[at])) {
-                readWord();
-            } else if (isDigit(signs[at])) {
-                readNumber();
+            if (sign >= '0' && sign <= '9') {
+                return NUMBER;
+            }
+            if (sign == ' ' || sign == '\n') {
+                return BLANK;
+            }
+            return sign == '(' || sign == ')' || sign == '-' || sign == ';' ? sign : BAD;
+        }
+
+        private void begin(int at, int sort) {
+            kinds[tokens] = sort;
+            starts[tokens] = at;
+            values[tokens] = sort == NUMBER ? signs[at] - '0' : signs[at];
+            tokens++;
+        }
+
+        private void lengthen(int token, int at, int sort) {
+            int signsNow = at - starts[token] + 1;
+            if (sort == NAME) {
+                values[token] = values[token] << 8 | signs[at];
             } else {
-                kind = isSign(signs[at]) ? signs[at] : BAD;
-                at++;
+                values[token] = 10 * values[token] + signs[at] - '0';
+            }
+            if (signsNow > (sort == NAME ? WORD_MOST : NUMBER_MOST)) {
+                kinds[token] = BAD;
             }
         }
 
-        private void readWord() {
-            letters = 0;
-            while (at < length && isLetter(signs[at])) {
-                letters = letters << 8 | signs[at];
-                at++;
+        private int wordOf(long letters) {
+            for (int word = LEFT; word <= BY; word++) {
+                if (words[word] == letters) {
+                    return word;
+                }
             }
-            kind = at - start <= WORD_MOST ? WORD : BAD;
-        }
-
-        private void readNumber() {
-            value = 0;
-            while (at < length && isDigit(signs[at])) {
-                value = 10 * value + signs[at] - '0';
-                at++;
-            }
-            kind = at - start <= NUMBER_MOST ? NUMBER : BAD;
-        }
-
-        private static boolean isLetter(int sign) {
-            return sign >= 'a' && sign <= 'z';
-        }
-
-        private static boolean isDigit(int sign) {
-            return sign >= '0' && sign <= '9';
-        }
-
-        private static boolean isSign(int sign) {
-            return sign == '(' || sign == ')' || sign == '-' || sign == ';';
+            return NAME;
         }
     }
 
@@ -390,7 +412,6 @@ public final class MarbleWorks {
         private static final int LINES_MOST = 125;
 
         private final Tape tape;
-        private final long[] words = new long[BY + 1];
         private final int[] acts = new int[LINES_MOST];
         private final int[] ends = new int[LINES_MOST];
         private final int[] firsts = new int[LINES_MOST];
@@ -401,6 +422,8 @@ public final class MarbleWorks {
         private final int[] nameLines = new int[NAMES_MOST];
         /** The LINES whose ( is open: one let at most, and again and mirror in it. */
         private final int[] open = new int[NESTED_MOST + 1];
+        /** The TOKEN at hand. */
+        private int token;
         private int size;
         private int told;
         private int depth;
@@ -408,23 +431,16 @@ public final class MarbleWorks {
 
         Program(Tape tape) {
             this.tape = tape;
-            int word = 1;
-            for (int i = 0; i < WORDS.length(); i++) {
-                if (WORDS.charAt(i) == ' ') {
-                    word++;
-                } else if (word <= BY) {
-                    words[word] = words[word] << 8 | WORDS.charAt(i);
-                }
-            }
         }
 
         /** 0, or the FAULT. */
         int read() {
+            token = 0;
             size = 0;
             told = 0;
             depth = 0;
             fault = 0;
-            tape.rewind();
+            tape.cut();
             for (int i = 0; i <= Tape.MOST && !isRead(); i++) {
                 readLine();
             }
@@ -432,11 +448,11 @@ public final class MarbleWorks {
         }
 
         private boolean isRead() {
-            return fault != 0 || tape.kind == Tape.END && depth == 0;
+            return fault != 0 || kindAtHand() == END && depth == 0;
         }
 
         private void readLine() {
-            switch (wordAtHand()) {
+            switch (kindAtHand()) {
                 case PUT: readPut(); break;
                 case AGAIN: readAgain(); break;
                 case MIRROR: readMirror(); break;
@@ -450,7 +466,7 @@ public final class MarbleWorks {
 
         private void readPut() {
             int line = begin(PUT);
-            int piece = wordAtHand();
+            int piece = kindAtHand();
             if (piece < LEFT || piece > SEESAW) {
                 fail(WRONG);
             }
@@ -465,7 +481,7 @@ public final class MarbleWorks {
             }
             int column = readNumber(0, COLUMNS - 1);
             int row = readNumber(0, ROWS - 1);
-            readSign(';');
+            readKind(';');
             write(line, piece, more, column, row);
         }
 
@@ -473,7 +489,7 @@ public final class MarbleWorks {
             checkNested();
             int line = begin(AGAIN);
             int times = readNumber(1, 12);
-            readWord(BY);
+            readKind(BY);
             int columns = readShift();
             int rows = readShift();
             write(line, times, columns, rows, 0);
@@ -499,7 +515,7 @@ public final class MarbleWorks {
                 fail(TOLD);
             }
             if (fault == 0) {
-                names[told] = tape.letters;
+                names[told] = tape.values[token];
                 nameLines[told] = line;
             }
             advance();
@@ -514,10 +530,10 @@ public final class MarbleWorks {
                 fail(UNTOLD);
             }
             advance();
-            readWord(BY);
+            readKind(BY);
             int columns = readShift();
             int rows = readShift();
-            readSign(';');
+            readKind(';');
             if (fault == 0) {
                 write(line, nameLines[name], columns, rows, 0);
             }
@@ -528,7 +544,7 @@ public final class MarbleWorks {
             int line = begin(LANE);
             int column = readNumber(0, COLUMNS - 1);
             int hopper = readNumber(0, HOPPERS);
-            readSign(';');
+            readKind(';');
             write(line, column, hopper == HOPPERS ? NONE : hopper, 0, 0);
         }
 
@@ -539,24 +555,25 @@ public final class MarbleWorks {
             int column = readNumber(0, COLUMNS - 1);
             int kind = readNumber(0, 3);
             int stock = readNumber(0, 999);
-            readSign(';');
+            readKind(';');
             write(line, hopper, column, kind, stock);
         }
 
         private void readOpen(int line) {
-            readSign('(');
+            readKind('(');
             if (fault == 0 && depth < open.length) {
                 open[depth] = line;
                 depth++;
             }
         }
 
+        /** What begins no LINE can only be the ) behind some. */
         private void readClose() {
             if (depth == 0) {
                 fail(WRONG);
             }
-            readSign(')');
-            readSign(';');
+            readKind(')');
+            readKind(';');
             if (fault == 0) {
                 depth--;
                 int line = open[depth];
@@ -581,12 +598,12 @@ public final class MarbleWorks {
         }
 
         private void checkName() {
-            if (tape.kind != Tape.WORD || wordAtHand() != NAME) {
+            if (kindAtHand() != NAME) {
                 fail(WRONG);
             }
         }
 
-        /** Takes the word that begins a LINE, and makes room for it. */
+        /** Takes the word that begins a LINE, and makes room for it; the LINE's number. */
         private int begin(int act) {
             if (size >= LINES_MOST) {
                 fail(WRONG);
@@ -609,18 +626,18 @@ public final class MarbleWorks {
         }
 
         private int readNumber(int least, int most) {
-            int value = tape.value;
-            if (tape.kind != Tape.NUMBER) {
+            long value = tape.values[token];
+            if (kindAtHand() != NUMBER) {
                 fail(WRONG);
             } else if (value < least || value > most) {
                 fail(OUT_OF_RANGE);
             }
             advance();
-            return value;
+            return (int) value;
         }
 
         private int readShift() {
-            boolean minus = tape.kind == '-';
+            boolean minus = kindAtHand() == '-';
             if (minus) {
                 advance();
             }
@@ -628,49 +645,36 @@ public final class MarbleWorks {
             return minus ? -value : value;
         }
 
-        private void readWord(int word) {
-            if (wordAtHand() != word) {
+        private void readKind(int kind) {
+            if (kindAtHand() != kind) {
                 fail(WRONG);
             }
             advance();
         }
 
-        private void readSign(int sign) {
-            if (tape.kind != sign) {
-                fail(WRONG);
-            }
-            advance();
-        }
-
-        /** The number of a WORD of the language; NAME for every other token. */
-        private int wordAtHand() {
-            for (int word = LEFT; tape.kind == Tape.WORD && word <= BY; word++) {
-                if (words[word] == tape.letters) {
-                    return word;
-                }
-            }
-            return NAME;
+        private int kindAtHand() {
+            return tape.kinds[token];
         }
 
         private int nameAtHand() {
             for (int i = 0; i < told; i++) {
-                if (names[i] == tape.letters) {
+                if (names[i] == tape.values[token]) {
                     return i;
                 }
             }
             return NONE;
         }
 
-        /** The first FAULT stays: behind it no token is read any more. */
+        /** The first FAULT stays: behind it no TOKEN is taken any more. */
         private void fail(int kind) {
             if (fault == 0) {
-                fault = kind + 16 * tape.start;
+                fault = kind + 16 * tape.starts[token];
             }
         }
 
         private void advance() {
-            if (fault == 0) {
-                tape.next();
+            if (fault == 0 && token < tape.tokens) {
+                token++;
             }
         }
     }

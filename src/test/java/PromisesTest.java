@@ -107,6 +107,8 @@ public final class PromisesTest {
     due("puts", w.it.count(9), 2);
     due("many blanks, digits with 0 ahead", w.draw("  put\ncounter 009 012 011 ;\n"), 0);
     due("counter", w.it.piece(12, 11), 7);
+    due("SIEVE of 0", w.draw("put sieve 0 9 9;"), 0);
+    due("its kind", w.it.shows(9, 9), 0);
     due("all", w.draw("put right 0 1;put trap 1 1;put cog 2 1;put seesaw 0 3 1;put seesaw 1 4 1;"), 0);
     int[] want = {2, 5, 8, 9, 9};
     for (int i = 0; i < 5; i++) {
@@ -156,6 +158,12 @@ public final class PromisesTest {
     for (int i = 0; i < texts.length; i++) {
       due("FAULT of " + texts[i], w.draw(texts[i]), Works.fault(kinds[i], at[i]));
     }
+    due("a TAPE of digits", w.draw("9".repeat(24)), Works.fault(1, 0));
+    due("then a shorter one", w.draw("put left 0 0"), Works.fault(1, 12));
+    due("a TAPE of letters", w.draw("x".repeat(24)), Works.fault(1, 0));
+    due("then a shorter one", w.draw("put"), Works.fault(1, 3));
+    due("a TAPE of blanks, then a shorter one", w.draw(" ".repeat(24)) + w.draw("put"), Works.fault(1, 3));
+    w.it.takeBack();
     due("nothing was done", w.it.count(0) + w.it.count(4) + w.it.count(8), 0);
     String four = "again 1 by 0 0(mirror 6(again 1 by 0 0(mirror 6(";
     due("4 within one another", w.draw(four + ");););); "), 0);
@@ -283,6 +291,7 @@ public final class PromisesTest {
     due("train", w.it.train(0, 5), -1);
     due("stock", w.it.hopper(0, 2), 6);
     due("column", w.it.hopper(0, 0), 1);
+    due("kind", w.it.hopper(0, 1), 0);
     due("lever", w.it.lever(0), 0);
     due("drops stay", w.it.count(3), 4);
     due("takeBack", w.it.takeBack(), true);
@@ -349,6 +358,14 @@ public final class PromisesTest {
     due("TRAINS", w.it.count(2), 4);
     w.it.takeBack();
     due("two again", w.it.train(7, 5), 13 * 5 + 7);
+    Works v = new Works().with("put gate 0 0 0;put gate 0 0 3;put gate 0 0 4;put gate 0 12 3;put gate 0 5 3;put gate 0 5 4;put gate 0 4 4;"
+        + "put gate 0 1 7;put gate 0 1 8;put gate 0 0 8;put gate 0 11 8;put gate 0 12 8;");
+    due("the first PLACE", v.it.train(0, 0), 0);
+    due("not round the side", v.it.train(12, 3), 13 * 3 + 12);
+    due("to the left, below", v.it.train(4, 4), 13 * 3 + 5);
+    due("to column 0", v.it.train(0, 8), 13 * 7 + 1);
+    due("to column 12", v.it.train(12, 8), 13 * 8 + 11);
+    due("TRAINS", v.it.count(2), 6);
   }
 
   private static void levers() {
@@ -453,6 +470,8 @@ public final class PromisesTest {
     due("2 ahead of 0", w.it.run(0, 1), 2);
     due("3 ahead of 0", w.it.run(1, 1), 3);
     due("4 ahead of 0", w.it.run(2, 1), 4);
+    w.with("put trap 10 0;hopper 3 10 3 1;lane 10 0;");
+    due("CAUGHT in row 0", w.it.run(3, 1), 2);
     Works v = new Works().with("lane 1 0;hopper 0 1 0 999;");
     due("200", v.it.run(0, 200), 0);
     due("stock", v.it.hopper(0, 2), 799);
@@ -521,6 +540,9 @@ public final class PromisesTest {
     due("from now on: LEAD", w.it.round(0, 0), 0);
     w.with("put trap 2 9;");
     due("CAUGHT", w.it.round(0, 0), -1);
+    w.with("put trap 10 0;");
+    due("CAUGHT in row 0", w.it.round(3, 0), -1);
+    w.it.takeBack();
     w.it.takeBack();
     w.with("put cog 2 9;");
     due("JAMMED", w.it.round(0, 1), -1);
@@ -641,6 +663,26 @@ public final class PromisesTest {
     m.it.run(0, 1);
     m.it.shelf(1, false);
     due("ALIKE now", m.it.alike(0, 1), 0);
+    m.with("put cog 4 0;");
+    m.it.shelf(2, false);
+    m.with("put trap 7 0;");
+    m.it.shelf(3, false);
+    int[][] lengths = {{0, 0, 1, 1}, {0, 0, 1, 1}, {1, 1, 0, 1}, {1, 1, 1, 0}};
+    int[][] firsts = {{-1, -1, 1, 1}, {-1, -1, 1, 1}, {1, 1, -1, 2}, {1, 1, 2, -1}};
+    for (int a = 0; a < 4; a++) {
+      for (int b = 0; b < 4; b++) {
+        due("alike(" + a + ", " + b + ")", m.it.alike(a, b), lengths[a][b]);
+      }
+    }
+    for (int b = 0; b < 4; b++) {
+      for (int a = 0; a < 4; a++) {
+        due("telling(" + a + ", " + b + ", 0)", m.it.telling(a, b, 0), firsts[a][b]);
+      }
+    }
+    Works l = two("put counter 3 1 0;put seesaw 0 2 1;hopper 3 2 0 0;", "put counter 3 1 0;put seesaw 0 2 1;hopper 3 2 0 0;put cog 3 2;");
+    due("the SEESAW turns when the COUNTER is full", l.it.alike(0, 1), 4);
+    due("0 0 0", l.it.telling(0, 1, 0) + l.it.telling(0, 1, 1) + l.it.telling(0, 1, 2), 0);
+    due("3", l.it.telling(0, 1, 3), 3);
   }
 
   private static void alikeLimits() {
@@ -751,9 +793,15 @@ public final class PromisesTest {
     Works v = new Works().with("put gate 0 1 0;put gate 0 10 0;");
     v.it.wish(10, 0, 1);
     v.it.wish(1, 0, 1);
+    due("step ahead of way", v.it.step(0), 0);
     due("two", v.it.way(), 2);
-    due("0", v.it.step(0), 0);
     due("3", v.it.step(1), 3);
+    Works o = new Works().with("put gate 1 10 11;put gate 0 1 0;put gate 0 4 0;put gate 0 7 0;");
+    o.it.wish(7, 0, 1);
+    o.it.wish(1, 0, 1);
+    o.it.wish(4, 0, 1);
+    due("three, whatever the first GATE shows", o.it.way(), 3);
+    due("HOPPERS 0, 1, 2", o.it.step(0) * 100 + o.it.step(1) * 10 + o.it.step(2), 12);
     // a SEESAW shows right behind even HOPPERS, left behind odd ones
     Works s = new Works().with("hopper 0 12 0 0;hopper 3 12 0 0;hopper 1 5 0 0;hopper 2 5 0 0;put seesaw 1 5 0;put gate 0 6 1;put cog 4 1;");
     s.it.wish(6, 1, 1);
@@ -829,6 +877,12 @@ public final class PromisesTest {
     due("none: the TRAP is not on the SHELF", w.it.suspect(2, 0), -1);
     w.it.shelf(2, false);
     due("none: it is on it, from the first on", w.it.suspect(2, 0), -1);
+    w.it.sight(-1, 0);
+    due("all", w.it.suspect(2, 1), 2);
+    w.it.takeBack();
+    w.it.takeBack();
+    w.it.shelf(2, false);
+    due("another BOARD is on it now", w.it.suspect(2, 1), -1);
     // all GATES of the TRAIN stick with it
     Works t = new Works().with("put gate 0 5 0;put gate 1 6 0;hopper 0 5 0 0;hopper 2 6 0 0;");
     t.it.shelf(0, false);
@@ -874,6 +928,10 @@ public final class PromisesTest {
     due("2 parts them, 2 and 1", v.it.test(3), 2);
     v.it.sight(3, 9);
     due("3 parts all", v.it.test(3), 3);
+    // two GATES of one TRAIN in one DROP: that it sticks shows at once
+    Works o = new Works().with("put gate 0 5 0;put cog 4 0;put gate 0 4 1;hopper 2 5 2 0;");
+    o.it.shelf(1, false);
+    due("at once", o.it.test(1), 2);
     due("none is out", v.it.suspect(3, 2), 1 + 13 + 11);
   }
 
