@@ -66,7 +66,7 @@ public final class ModelRunsTest {
 
   private void call(int kind) {
     if (kind < 9) {
-      draw(pick(3) == 0 ? denseBoard(1 + pick(3)) : program());
+      draw(pick(3) == 0 ? denseBoard(1 + pick(3)) : pick(8) == 0 ? longProgram() : program());
     } else if (kind < 12) {
       draw(leversAndHoppers());
     } else if (kind < 15) {
@@ -337,7 +337,7 @@ public final class ModelRunsTest {
       within(b, depth);
     } else if (kind < 8 && (outside || pick(30) == 0)) {
       String name = NAMES[pick(NAMES.length)];
-      while (names.contains(name) && pick(20) > 0 && names.size() < NAMES.length) {
+      while (names.contains(name) && pick(8) > 0 && names.size() < NAMES.length) {
         name = NAMES[pick(NAMES.length)];
       }
       b.append("let ").append(name);
@@ -349,6 +349,27 @@ public final class ModelRunsTest {
     } else if (outside || pick(30) == 0) {
       b.append(leversAndHoppers());
     }
+  }
+
+  /** About 2000 LINES, with puts that can or can't be done somewhere among them. */
+  private String longProgram() {
+    StringBuilder b = new StringBuilder("let n(");
+    for (int i = pick(3); i > 0; i--) {
+      b.append("mirror ").append(pick(13)).append("();");
+    }
+    b.append(");");
+    for (int i = 0; i < 3; i++) {
+      b.append("again ").append(11 + pick(2)).append(" by 0 0(");
+      if (pick(3) == 0) {
+        b.append("use n by 0 0;");
+      }
+    }
+    b.append(pick(4) == 0 ? "" : "use n by 1 1;").append(");");
+    b.append(pick(3) == 0 ? "put cog 3 3;" : "").append(");").append("mirror 2();".repeat(pick(12))).append(");");
+    for (int i = pick(5); i > 0; i--) {
+      b.append("again ").append(1 + pick(12)).append(" by 0 0(").append("use n by 0 0;".repeat(pick(9))).append(");");
+    }
+    return b.append("put cog ").append(pick(13)).append(' ').append(pick(12)).append(';').toString();
   }
 
   private void within(StringBuilder b, int depth) {
