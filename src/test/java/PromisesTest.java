@@ -16,6 +16,7 @@ public final class PromisesTest {
     takeBack();
     places();
     shows();
+    sixteen();
     trains();
     levers();
     hoppers();
@@ -85,6 +86,9 @@ public final class PromisesTest {
     due("beyond 1000", w.feed(";".repeat(24)), 1000);
     due("full", w.it.feed(Long.MAX_VALUE, 0x3b3b3b3b3b3b3b3bL, 0x3b3b3b3b3b3b3b3bL), 1000);
     due("draw", w.it.draw(), Works.fault(1, 990));
+    due("1000 tokens", w.draw(";".repeat(1000)), Works.fault(1, 0));
+    due("1000 blanks", w.draw(" ".repeat(1000)), 0);
+    due("the end of 1000", w.draw(" ".repeat(997) + "put"), Works.fault(1, 1000));
     w.feed("hopper 0 1");
     due("a TAPE goes on", w.draw("2 3 45;"), 0);
     due("column", w.it.hopper(0, 0), 12);
@@ -335,6 +339,25 @@ public final class PromisesTest {
     for (int i = 1; i < 20; i++) {
       w.it.run(0, 1);
       due("counter", w.it.shows(2, 0), i % 9);
+    }
+  }
+
+  /** Each of 16 that MOVE keeps what it shows to itself. */
+  private static void sixteen() {
+    Works w = new Works().with("put counter 9 12 1;put counter 9 12 2;again 12 by 1 0(put counter 9 0 0;);put counter 9 12 0;put counter 9 12 3;");
+    for (int column = 12; column >= 0; column--) {
+      w.with("hopper 0 " + column + " 0 9;");
+      for (int i = 0; i <= column % 8; i++) {
+        w.it.run(0, 1);
+      }
+    }
+    for (int column = 0; column < 13; column++) {
+      due("COUNTER " + column, w.it.shows(column, 0), column % 8 + 1);
+    }
+    due("COUNTERS where none came", w.it.shows(12, 1) + w.it.shows(12, 2) + w.it.shows(12, 3), 0);
+    Works g = new Works().with("again 4 by 2 0(again 2 by 0 2(put gate 1 0 0;put seesaw 0 0 1;););");
+    for (int i = 0; i < 16; i++) {
+      due("GATES and SEESAWS", g.it.shows(i / 4 * 2, i % 4), 1 - i % 2);
     }
   }
 
