@@ -98,6 +98,8 @@ public final class BoardEdgesTest {
         due("wish" + at, w.it.wish(n[0], n[1], to), false);
       }
     }
+    says("PIECES: 1 LEFT, 2 RIGHT: slopes; 3 CROSS; 4 GATE (shows 0 left, 1 right); 5 TRAP; 6 SIEVE (of a kind 0 to 3); "
+        + "7 COUNTER (of 2 to 9; its count 0 at first); 8 COG; 9 SEESAW (shows 0 left, 1 right).");
     Works all = new Works().with("put left 0 0;put right 1 0;put cross 2 0;put gate 0 3 0;put trap 4 0;put sieve 0 5 0;put counter 2 6 0;"
         + "put cog 7 0;put seesaw 0 8 0;");
     for (int i = 0; i < 9; i++) {
@@ -271,7 +273,7 @@ public final class BoardEdgesTest {
   }
 
   private static void sides() {
-    says("a marble of its kind comes to its column in row 0, from the left if the HOPPER is even, else from the right.");
+    says("A DROP of a HOPPER: a marble of its kind comes to its column in row 0, from the left if the HOPPER is even, else from the right.");
     Works w = new Works().with("again 4 by 3 0(put cross 1 0;);");
     int[] lanes = {2, 3, 8, 9};
     for (int hopper = 0; hopper < 4; hopper++) {
@@ -289,6 +291,14 @@ public final class BoardEdgesTest {
   }
 
   private static void slopesAtTheSides() {
+    says("At a PLACE it goes left or right: to the next row, a column less (it comes there from the right) or more (from the left). LEFT, RIGHT: so.");
+    Works below = new Works().with("put left 4 0;put trap 3 1;put right 7 0;put cog 8 1;put left 1 5;put trap 0 6;put right 10 10;put trap 11 11;");
+    due("left, a row down", below.tries(1), CAUGHT + 16);
+    due("right, a row down", below.tries(2), JAMMED + 16);
+    due("left from row 5", below.tries(0), CAUGHT + 16 * 6);
+    due("right from row 10", below.tries(3), CAUGHT + ROW_11);
+    Works beside = new Works().with("put left 4 0;put trap 3 0;put trap 5 1;put right 7 0;put trap 8 0;put trap 6 1;");
+    due("not beside, not to the other side", beside.tries(1) * 100 + beside.tries(2), 308);
     says("Beyond column 0 or 12: it is LOST. Below row 11 it LANDS in the LANE of its column.");
     String[] rows = {"0", "11"};
     for (int i = 0; i < 2; i++) {
@@ -325,6 +335,9 @@ public final class BoardEdgesTest {
   }
 
   private static void rowsOfEnds() {
+    says("TRAP: it is CAUGHT. COG: it JAMS.");
+    due("TRAP", new Works().with("put trap 1 6;").tries(0), CAUGHT + 16 * 6);
+    due("COG", new Works().with("put cog 1 6;").tries(0), JAMMED + 16 * 6);
     says("HOW a DROP ended, as a number: LANDED: the LANE; else 16 * the row of the last PLACE (whose PIECE sent it, caught it, jammed it) "
         + "+ 256 CAUGHT, 512 JAMMED, 768 LOST.");
     for (int row = 0; row < 12; row++) {
@@ -425,7 +438,7 @@ public final class BoardEdgesTest {
     for (int hopper : new int[] {-1, 4, LOW, FAR}) {
       due("tries(" + hopper + ")", w.tries(hopper), Works.THROWN);
     }
-    Works twice = new Works().with("put gate 0 1 0;put gate 0 0 1;put cog 0 0;put gate 1 4 0;put gate 1 5 1;put cog 5 0;");
+    Works twice = new Works().with("put gate 0 0 1;put gate 0 1 0;put cog 0 0;put gate 1 4 0;put gate 1 5 1;put cog 5 0;");
     due("a GATE that the one ahead of it flips, to the right", twice.tries(0), 1);
     due("a GATE that the one ahead of it flips, to the left", twice.tries(1), 4);
     due("nothing flipped", twice.it.shows(0, 1) * 10 + twice.it.shows(5, 1), 1);

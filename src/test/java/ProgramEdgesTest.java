@@ -18,6 +18,7 @@ public final class ProgramEdgesTest {
     numbersOfPut();
     numbersOfShifts();
     numbersOfHoppers();
+    lineForms();
     noLines();
     outsideAlone();
     names();
@@ -285,6 +286,51 @@ public final class ProgramEdgesTest {
     beyond(1, "hopper 0 0 0 0 ~0;");
   }
 
+  private static final String[] FORMS = {"put left 1 1 ;", "put right 1 1 ;", "put cross 1 1 ;", "put gate 1 1 1 ;", "put trap 1 1 ;", "put sieve 1 1 1 ;",
+    "put counter 2 1 1 ;", "put cog 1 1 ;", "put seesaw 1 1 1 ;", "again 1 by 1 1 ( ) ;", "again 1 by - 1 - 1 ( ) ;", "mirror 1 ( ) ;", "let a ( ) ;",
+    "use n by 1 1 ;", "use n by - 1 - 1 ;", "lane 1 1 ;", "hopper 1 1 1 1 ;"};
+
+  /** Each TOKEN of each LINE in turn made another one that can't stand there. */
+  private static void lineForms() {
+    says("LINE: put PIECE C R ; again N by S S ( LINES ) ; mirror C ( LINES ) ; let NAME ( LINES ) ; use NAME by S S ; lane C H ; hopper H C K N ; "
+        + "PIECE: left, right, cross, gate B, trap, sieve K, counter N, cog, seesaw B. S: N, or - N.");
+    for (String form : FORMS) {
+      within("let n ( ) ; " + form);
+      within("let n();" + form.replace(" ;", ";").replace(" ( )", "()"));
+    }
+    says("1 it is none, or can't stand there (let, lane, hopper within ( ), too);");
+    String[] others = (String.join(" ", WORDS) + " zz 1 ( ) - ; # Z abcdefghi 1000").split(" ");
+    for (String form : FORMS) {
+      String[] tokens = form.split(" ");
+      int place = "let n ( ) ; ".length();
+      for (int at = 0; at < tokens.length; at++) {
+        for (String other : others) {
+          if (!canStand(tokens, at, other)) {
+            drawn("let n ( ) ; " + form.substring(0, place - 12) + other + " " + form.substring(place - 12 + tokens[at].length()), Works.fault(1, place));
+          }
+        }
+        place += tokens[at].length() + 1;
+      }
+    }
+  }
+
+  private static boolean canStand(String[] tokens, int at, String other) {
+    String now = tokens[at];
+    boolean number = Character.isDigit(now.charAt(0));
+    if (other.equals(now) || at == 0 && "put again mirror let use lane hopper".contains(other)) {
+      return true;
+    }
+    if (number || now.equals("-")) {
+      boolean shift = at > 1 && !tokens[at - 1].equals("-") && String.join(" ", tokens).indexOf(" by ") > 0;
+      return other.equals("1") || other.equals("-") && shift;
+    }
+    if (now.equals(")")) {
+      return "put again mirror use".contains(other);
+    }
+    boolean name = tokens[0].equals("let") || tokens[0].equals("use");
+    return at == 1 && (name ? other.equals("zz") : tokens[0].equals("put") && "left right cross gate trap sieve counter cog seesaw".contains(other));
+  }
+
   private static void noLines() {
     says("(LINES: any number, none, too.)");
     within("");
@@ -460,11 +506,23 @@ public final class ProgramEdgesTest {
   // ---- what PROGRAMS do
 
   private static void doneInOrder() {
+    says("The TAPE is a PROGRAM that is done: 0; its FAULT; a REASON why it can't be, negative (-1 to -4).");
+    drawn("put cog 0 0;", 0);
+    drawn("put cog 0 0;put", Works.fault(1, 15));
+    drawn("mirror 0(put cog 1 0;);", -1);
+    drawn("put cog 0 0;put cog 0 0;", -2);
+    drawn("again 12 by 1 0(put gate 0 0 0;put gate 0 0 1;);", -3);
+    drawn(LINES_1885 + LINES_1885, -4);
+    due("a FAULT ahead of a REASON", new Works().draw("put cog 0 0;put cog 0 0;x"), Works.fault(1, 24));
     says("A PROGRAM without a FAULT is done LINE by LINE; what stands within ( ) likewise.");
     Works w = new Works().with("lane 0 0;lane 0 1;lane 0 2;hopper 0 1 1 1;hopper 0 2 2 2;");
     due("the last LEVER", w.it.lever(0), 2);
     due("the last HOPPER", w.hopper(0, 0) * 100 + w.hopper(0, 1) * 10 + w.hopper(0, 2), 222);
     drawn("put cog 0 0;again 1 by 0 0(put cog 0 0;);", -2);
+    says("put: the PIECE at its PLACE, as it is moved and mirrored then.");
+    due("as it is", new Works().with("put left 12 11;").it.piece(12, 11), 1);
+    due("moved", new Works().with("again 2 by 0 1(put left 12 10;);").it.piece(12, 11), 1);
+    due("mirrored", new Works().with("mirror 6(put left 0 11;);").it.piece(12, 11), 2);
   }
 
   private static void repeats() {

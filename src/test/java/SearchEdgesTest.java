@@ -200,7 +200,16 @@ public final class SearchEdgesTest {
     due("two ways to one LANE", two("put left 4 0;put right 3 1;", "put right 4 0;put left 5 1;").it.alike(0, 1), 0);
     due("GATE and COUNTER of 2", two("put gate 0 4 0;", "put counter 2 4 0;").it.alike(0, 1), 0);
     due("COUNTER of 2 and GATE", two("put counter 2 4 0;", "put gate 0 4 0;").it.alike(0, 1), 0);
-    due("each dropped whatever comes of the one ahead", two("put gate 0 4 0;put trap 3 1;", "put gate 0 4 0;put trap 3 1;put cog 5 1;").it.alike(0, 1), 2);
+    says("TRIES are HOPPERS one behind the other, each dropped whatever comes of the one ahead.");
+    due("behind one that was CAUGHT", two("put gate 0 4 0;put trap 3 1;", "put gate 0 4 0;put trap 3 1;put cog 5 1;").it.alike(0, 1), 2);
+    due("behind one that JAMMED", two("put gate 0 4 0;put cog 3 1;", "put gate 0 4 0;put cog 3 1;put trap 5 1;").it.alike(0, 1), 2);
+    due("behind one that was LOST", two("hopper 0 12 0 0;hopper 1 0 0 0;put gate 0 0 0;", "hopper 0 12 0 0;hopper 1 0 0 0;put gate 0 0 0;put trap 1 1;").it.alike(0, 1), 2);
+    due("without a LEVER, without STOCK", two("put gate 0 4 0;", "put gate 0 4 0;put trap 5 1;").it.alike(0, 1), 2);
+    Works through = new Works().with("put gate 0 4 0;put trap 3 1;put gate 0 5 1;put cog 5 0;");
+    through.it.wish(5, 1, 0);
+    through.it.wish(4, 0, 1);
+    due("no WAY", through.it.way(), -1);
+    says("THE TELLING TRY is the shortest one whose last DROP does;");
     for (int n = 2; n < 9; n++) {
       Works w = two("put counter " + n + " 4 0;", "put counter " + (n + 1) + " 4 0;");
       due("COUNTERS of " + n + " and one more", w.it.alike(0, 1), n);
@@ -255,6 +264,14 @@ public final class SearchEdgesTest {
         due("telling(" + b + ", " + a + ", 0)", w.it.telling(b, a, 0), first[a][b]);
         due("telling(" + a + ", " + b + ", 0)", w.it.telling(a, b, 0), first[a][b]);
       }
+    }
+    for (int i = 0; i < 32; i++) {
+      int a = i < 16 ? 3 - i % 4 : i / 4 % 4;
+      int b = i < 16 ? i / 4 : 3 - i % 4;
+      due("alike(" + a + ", " + b + ")", w.it.alike(a, b), want[a][b]);
+    }
+    for (int i = 0; i < 16; i++) {
+      due("telling(" + i % 4 + ", " + i / 4 + ", 0)", w.it.telling(i % 4, i / 4, 0), first[i % 4][i / 4]);
     }
   }
 
