@@ -42,8 +42,23 @@ public final class FaceTest {
         Works.due(inside.getName() + " has " + m.getName(), names.contains(m.getName()), false);
       }
     }
+    fields(c);
+    for (Class<?> inside : c.getDeclaredClasses()) {
+      fields(inside);
+    }
     Works.due("classes, at most 12", c.getDeclaredClasses().length <= 11, true);
     Works.end("FaceTest");
+  }
+
+  /** Static ones are constants; of the others a class has some twenty at most. */
+  private static void fields(Class<?> c) {
+    int found = 0;
+    for (Field f : c.getDeclaredFields()) {
+      boolean isStatic = Modifier.isStatic(f.getModifiers());
+      found += isStatic ? 0 : 1;
+      Works.due(c.getName() + "." + f.getName() + " is static, so final", isStatic && !Modifier.isFinal(f.getModifiers()), false);
+    }
+    Works.due(c.getName() + " has " + found + " fields, at most 20", found <= 20, true);
   }
 
   private static String told(Method m) {
